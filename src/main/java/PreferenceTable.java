@@ -353,9 +353,7 @@ public final class PreferenceTable {
         private final long[] loads = new long[MOST_SERVERS];
 
         void clear() {
-            for (int server = 0; server < MOST_SERVERS; server++) {
-                drop(server);
-            }
+            Arrays.fill(names, FREE);
         }
 
         void copyFrom(Fleet other) {
@@ -400,12 +398,10 @@ public final class PreferenceTable {
             }
         }
 
+        /** What else the number holds counts no more, and is overwritten by the next put. */
         void drop(int server) {
             if (isNumber(server)) {
                 names[server] = FREE;
-                weights[server] = 0;
-                ups[server] = false;
-                loads[server] = 0L;
             }
         }
 

@@ -121,6 +121,19 @@ public final class ServersTest {
         t.addServer(2, 1);
         t.addServer(1, 1);
         Check.is("a new server does not take over a pin", t.unpin(0), PreferenceTable.NONE);
+        removeServerKeepsOtherPins();
+    }
+
+    private static void removeServerKeepsOtherPins() {
+        PreferenceTable t = oneAndTwo();
+        t.pin(20, 1);
+        t.pin(21, 0);
+        t.pin(22, 1);
+        t.unpin(22);
+        t.removeServer(0);
+        Check.is("pin(23, 1) beside the one kept", t.pin(23, 1), 2);
+        Check.is("unpin(22), unpinned before", t.unpin(22), PreferenceTable.NONE);
+        Check.is("unpin(20)", t.unpin(20), 1);
     }
 
     private static void setWeight() {

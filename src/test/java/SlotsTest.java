@@ -81,6 +81,8 @@ public final class SlotsTest {
 
     private static void resetStartsAnew() {
         PreferenceTable t = busy();
+        t.setUp(0, false);
+        Check.is("forcedDisruption() before reset", t.forcedDisruption(), 3);
         Check.is("reset(7)", t.reset(7), 5);
         Check.isText("slots after reset", Check.slots(t, 7), "-1 -1 -1 -1 -1 -1 -1");
         Check.is("serverCount() after reset", t.serverCount(), 0);
@@ -223,5 +225,10 @@ public final class SlotsTest {
         t.setUp(0, false);
         t.setUp(1, false);
         Check.isDouble("imbalance() with all down", t.imbalance(), 0.0);
+        t.reset(5);
+        for (int name = 1; name <= 6; name++) {
+            t.addServer(name, 1);
+        }
+        Check.isDouble("imbalance() of shares below 1", t.imbalance(), 1.0 / (5.0 / 6.0));
     }
 }
