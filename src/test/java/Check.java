@@ -52,25 +52,6 @@ final class Check {
         return wrong;
     }
 
-    /** What the slots contain, from slot 0 on, separated by blanks. */
-    static String slots(PreferenceTable table, int slotCount) {
-        StringBuilder text = new StringBuilder();
-        for (int slot = 0; slot < slotCount; slot++) {
-            text.append(slot == 0 ? "" : " ").append(table.serverAt(slot));
-        }
-        return text.toString();
-    }
-
-    /** The tracker's list, each entry as key:count:error. */
-    static String entries(PreferenceTable table) {
-        StringBuilder text = new StringBuilder();
-        for (int entry = 0; entry < table.trackedKeys(); entry++) {
-            text.append(entry == 0 ? "" : " ").append(table.hotKey(entry)).append(':')
-                    .append(table.hotCount(entry)).append(':').append(table.hotError(entry));
-        }
-        return text.toString();
-    }
-
     static void finish() {
         System.out.println(made + " checks, " + wrong + " wrong");
         if (made == 0 || wrong != 0) {

@@ -11,34 +11,28 @@ public final class HistoryTest {
         Check.finish();
     }
 
-    private static PreferenceTable withFiveSlots() {
-        PreferenceTable t = new PreferenceTable();
-        t.reset(5);
-        return t;
-    }
-
     private static void undoOfEachKindOfChange() {
-        PreferenceTable t = withFiveSlots();
+        PreferenceTable t = Tables.withFiveSlots();
         t.addServer(1, 1);
         t.addServer(2, 2);
         t.setWeight(0, 2);
-        Check.isText("slots with weight 2", Check.slots(t, 5), "0 1 0 0 1");
+        Check.isText("slots with weight 2", Tables.slots(t, 5), "0 1 0 0 1");
         t.setUp(1, false);
         t.removeServer(0);
-        Check.isText("slots without servers up", Check.slots(t, 5), "-1 -1 -1 -1 -1");
+        Check.isText("slots without servers up", Tables.slots(t, 5), "-1 -1 -1 -1 -1");
         Check.is("undo() of removeServer", t.undo(), 3);
-        Check.isText("slots with 0 again", Check.slots(t, 5), "0 0 0 0 0");
+        Check.isText("slots with 0 again", Tables.slots(t, 5), "0 0 0 0 0");
         Check.is("disruption()", t.disruption(), 5);
         Check.is("forcedDisruption()", t.forcedDisruption(), 5);
         Check.is("serverNamed(1)", t.serverNamed(1), 0);
         Check.is("undo() of setUp", t.undo(), 2);
-        Check.isText("slots with 1 up", Check.slots(t, 5), "0 1 0 0 1");
+        Check.isText("slots with 1 up", Tables.slots(t, 5), "0 1 0 0 1");
         Check.is("undo() of setWeight", t.undo(), 1);
-        Check.isText("slots with weight 1", Check.slots(t, 5), "1 1 0 0 1");
+        Check.isText("slots with weight 1", Tables.slots(t, 5), "1 1 0 0 1");
         Check.is("disruption()", t.disruption(), 1);
         Check.is("forcedDisruption()", t.forcedDisruption(), 0);
         Check.is("undo() of addServer", t.undo(), 0);
-        Check.isText("slots with 0 alone", Check.slots(t, 5), "0 0 0 0 0");
+        Check.isText("slots with 0 alone", Tables.slots(t, 5), "0 0 0 0 0");
         Check.is("disruption()", t.disruption(), 3);
         Check.is("forcedDisruption()", t.forcedDisruption(), 3);
         Check.badArgument("loadOf(1)", () -> t.loadOf(1));
@@ -91,7 +85,7 @@ public final class HistoryTest {
         Check.is("loadOf(0) before setUp", t.loadOf(0), 110);
         t.undo();
         Check.is("loadOf(0) before addServer", t.loadOf(0), 10);
-        Check.isText("the tracker goes on", Check.entries(t), "5:1110:0");
+        Check.isText("the tracker goes on", Tables.entries(t), "5:1110:0");
         t.undo();
         Check.is("addServer(1, 1) once more", t.addServer(1, 1), 0);
         Check.is("loadOf(0) of a new server", t.loadOf(0), 0);
@@ -132,7 +126,7 @@ public final class HistoryTest {
     }
 
     private static void undoRefuses() {
-        PreferenceTable t = withFiveSlots();
+        PreferenceTable t = Tables.withFiveSlots();
         Check.badState("undo() without changes", t::undo);
         t.addServer(1, 1);
         t.undo();

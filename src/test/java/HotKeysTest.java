@@ -16,15 +16,15 @@ public final class HotKeysTest {
         t.request(50, 3);
         t.request(40, 3);
         t.request(60, 3);
-        Check.isText("equal counts", Check.entries(t), "40:3:0 50:3:0 60:3:0");
+        Check.isText("equal counts", Tables.entries(t), "40:3:0 50:3:0 60:3:0");
         t.request(60, 1);
-        Check.isText("the last key grows", Check.entries(t), "60:4:0 40:3:0 50:3:0");
+        Check.isText("the last key grows", Tables.entries(t), "60:4:0 40:3:0 50:3:0");
         t.request(50, 1);
-        Check.isText("a tie for the first", Check.entries(t), "50:4:0 60:4:0 40:3:0");
+        Check.isText("a tie for the first", Tables.entries(t), "50:4:0 60:4:0 40:3:0");
         t.request(40, 9);
-        Check.isText("from last to first", Check.entries(t), "40:12:0 50:4:0 60:4:0");
+        Check.isText("from last to first", Tables.entries(t), "40:12:0 50:4:0 60:4:0");
         t.request(0, 1);
-        Check.isText("a small one", Check.entries(t), "40:12:0 50:4:0 60:4:0 0:1:0");
+        Check.isText("a small one", Tables.entries(t), "40:12:0 50:4:0 60:4:0 0:1:0");
         Check.is("trackedKeys()", t.trackedKeys(), 4);
     }
 
@@ -39,19 +39,19 @@ public final class HotKeysTest {
 
     private static void eightEntriesAtMost() {
         PreferenceTable t = withEightEntries();
-        Check.isText("eight entries", Check.entries(t),
+        Check.isText("eight entries", Tables.entries(t),
                 "10:20:0 11:18:0 12:16:0 13:14:0 14:12:0 15:10:0 16:8:0 17:6:0");
         t.request(30, 1);
-        Check.isText("the last one is replaced", Check.entries(t),
+        Check.isText("the last one is replaced", Tables.entries(t),
                 "10:20:0 11:18:0 12:16:0 13:14:0 14:12:0 15:10:0 16:8:0 30:7:6");
         t.request(31, 5);
-        Check.isText("a replaced one is replaced", Check.entries(t),
+        Check.isText("a replaced one is replaced", Tables.entries(t),
                 "10:20:0 11:18:0 12:16:0 13:14:0 14:12:0 31:12:7 15:10:0 16:8:0");
         t.request(9, 4);
-        Check.isText("the new key is the lowest of equal counts", Check.entries(t),
+        Check.isText("the new key is the lowest of equal counts", Tables.entries(t),
                 "10:20:0 11:18:0 12:16:0 13:14:0 9:12:8 14:12:0 31:12:7 15:10:0");
         t.request(31, 1);
-        Check.isText("the error stays", Check.entries(t),
+        Check.isText("the error stays", Tables.entries(t),
                 "10:20:0 11:18:0 12:16:0 13:14:0 31:13:7 9:12:8 14:12:0 15:10:0");
         Check.is("trackedKeys()", t.trackedKeys(), 8);
     }
@@ -62,20 +62,20 @@ public final class HotKeysTest {
             t.request(key, key > 4 ? 5 : 2);
         }
         t.request(100, 1);
-        Check.isText("key 1 is replaced", Check.entries(t),
+        Check.isText("key 1 is replaced", Tables.entries(t),
                 "5:5:0 6:5:0 7:5:0 8:5:0 100:3:2 2:2:0 3:2:0 4:2:0");
         t.request(0, 3);
-        Check.isText("key 2 is replaced", Check.entries(t),
+        Check.isText("key 2 is replaced", Tables.entries(t),
                 "0:5:2 5:5:0 6:5:0 7:5:0 8:5:0 100:3:2 3:2:0 4:2:0");
         t.request(101, 1000000);
-        Check.isText("key 3 is replaced", Check.entries(t),
+        Check.isText("key 3 is replaced", Tables.entries(t),
                 "101:1000002:2 0:5:2 5:5:0 6:5:0 7:5:0 8:5:0 100:3:2 4:2:0");
         t.reset(13);
         for (int key = 20; key < 28; key++) {
             t.request(key, 1);
         }
         t.request(28, 1);
-        Check.isText("all counts are equal", Check.entries(t),
+        Check.isText("all counts are equal", Tables.entries(t),
                 "28:2:1 21:1:0 22:1:0 23:1:0 24:1:0 25:1:0 26:1:0 27:1:0");
     }
 
@@ -83,7 +83,7 @@ public final class HotKeysTest {
         PreferenceTable t = withEightEntries();
         t.request(30, 1);
         t.request(17, 1);
-        Check.isText("17 is back", Check.entries(t),
+        Check.isText("17 is back", Tables.entries(t),
                 "10:20:0 11:18:0 12:16:0 13:14:0 14:12:0 15:10:0 16:8:0 17:8:7");
     }
 
@@ -103,7 +103,7 @@ public final class HotKeysTest {
         t.request(99999, 2);
         t.request(0, 1);
         refusesEntries(t, 2, -1, 3, 8, Integer.MIN_VALUE, Integer.MAX_VALUE);
-        Check.isText("two entries", Check.entries(t), "99999:2:0 0:1:0");
+        Check.isText("two entries", Tables.entries(t), "99999:2:0 0:1:0");
         refusesEntries(withEightEntries(), 8, -1);
     }
 
@@ -124,10 +124,10 @@ public final class HotKeysTest {
         t.pin(2, 0);
         t.unpin(2);
         t.removeServer(0);
-        Check.isText("after changes", Check.entries(t), "2:6:0 1:5:0");
+        Check.isText("after changes", Tables.entries(t), "2:6:0 1:5:0");
         t.undo();
         t.undo();
         t.undo();
-        Check.isText("after undoing them", Check.entries(t), "2:6:0 1:5:0");
+        Check.isText("after undoing them", Tables.entries(t), "2:6:0 1:5:0");
     }
 }

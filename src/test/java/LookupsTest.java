@@ -19,17 +19,8 @@ public final class LookupsTest {
         Check.finish();
     }
 
-    /** Servers 0 (name 1, weight 1) and 1 (name 2, weight 2) on the slots 1 1 0 0 1. */
-    private static PreferenceTable oneAndTwo() {
-        PreferenceTable t = new PreferenceTable();
-        t.reset(5);
-        t.addServer(1, 1);
-        t.addServer(2, 2);
-        return t;
-    }
-
     private static void serverOf() {
-        PreferenceTable t = oneAndTwo();
+        PreferenceTable t = Tables.oneAndTwo();
         Check.is("serverOf(0)", t.serverOf(0), 1);
         Check.is("serverOf(13)", t.serverOf(13), 1);
         Check.is("serverOf(3)", t.serverOf(3), 0);
@@ -68,13 +59,13 @@ public final class LookupsTest {
     }
 
     private static void request() {
-        PreferenceTable t = oneAndTwo();
+        PreferenceTable t = Tables.oneAndTwo();
         Check.is("request(0, 1)", t.request(0, 1), 1);
         Check.is("request(99999, 1000000)", t.request(99999, 1000000), 1);
         Check.is("request(3, 5)", t.request(3, 5), 0);
         Check.is("loadOf(0)", t.loadOf(0), 5);
         Check.is("loadOf(1)", t.loadOf(1), 1000001);
-        Check.isText("entries", Check.entries(t), "99999:1000000:0 3:5:0 0:1:0");
+        Check.isText("entries", Tables.entries(t), "99999:1000000:0 3:5:0 0:1:0");
         t.pin(3, 1);
         Check.is("request(3, 10) pinned", t.request(3, 10), 1);
         Check.is("loadOf(0) after the pin", t.loadOf(0), 5);
@@ -83,7 +74,7 @@ public final class LookupsTest {
     }
 
     private static void requestRefuses() {
-        PreferenceTable t = oneAndTwo();
+        PreferenceTable t = Tables.oneAndTwo();
         Check.badArgument("request(-1, 1)", () -> t.request(-1, 1));
         Check.badArgument("request(100000, 1)", () -> t.request(100000, 1));
         Check.badArgument("request(0, 0)", () -> t.request(0, 0));
@@ -98,17 +89,17 @@ public final class LookupsTest {
     private static void requestWithoutServer() {
         PreferenceTable t = new PreferenceTable();
         Check.is("request(7, 3) without servers", t.request(7, 3), PreferenceTable.NONE);
-        Check.isText("entries without servers", Check.entries(t), "7:3:0");
+        Check.isText("entries without servers", Tables.entries(t), "7:3:0");
         t.addServer(1, 1);
         Check.is("loadOf(0) of a later server", t.loadOf(0), 0);
         t.setUp(0, false);
         Check.is("request(7, 2) with all down", t.request(7, 2), PreferenceTable.NONE);
         Check.is("loadOf(0) while down", t.loadOf(0), 0);
-        Check.isText("entries with all down", Check.entries(t), "7:5:0");
+        Check.isText("entries with all down", Tables.entries(t), "7:5:0");
     }
 
     private static void loadOf() {
-        PreferenceTable t = oneAndTwo();
+        PreferenceTable t = Tables.oneAndTwo();
         for (int i = 0; i < 400; i++) {
             t.request(0, 1000000);
         }
@@ -123,7 +114,7 @@ public final class LookupsTest {
     }
 
     private static void rankedServer() {
-        PreferenceTable t = oneAndTwo();
+        PreferenceTable t = Tables.oneAndTwo();
         ranking(t, 0, 1);
         t.request(0, 2);
         ranking(t, 1, 0);

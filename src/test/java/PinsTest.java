@@ -12,17 +12,8 @@ public final class PinsTest {
         Check.finish();
     }
 
-    /** Servers 0 (name 1, weight 1) and 1 (name 2, weight 2) on the slots 1 1 0 0 1. */
-    private static PreferenceTable oneAndTwo() {
-        PreferenceTable t = new PreferenceTable();
-        t.reset(5);
-        t.addServer(1, 1);
-        t.addServer(2, 2);
-        return t;
-    }
-
     private static PreferenceTable withSixPins() {
-        PreferenceTable t = oneAndTwo();
+        PreferenceTable t = Tables.oneAndTwo();
         for (int key = 0; key < 6; key++) {
             Check.is("pin(" + key + ", 0)", t.pin(key, 0), key + 1);
         }
@@ -30,7 +21,7 @@ public final class PinsTest {
     }
 
     private static void pin() {
-        PreferenceTable t = oneAndTwo();
+        PreferenceTable t = Tables.oneAndTwo();
         Check.is("pin(0, 0)", t.pin(0, 0), 1);
         Check.is("serverOf(0)", t.serverOf(0), 0);
         Check.is("pin(99999, 0)", t.pin(99999, 0), 2);
@@ -72,7 +63,7 @@ public final class PinsTest {
     }
 
     private static void pinToAServerThatIsDown() {
-        PreferenceTable t = oneAndTwo();
+        PreferenceTable t = Tables.oneAndTwo();
         t.setUp(0, false);
         Check.is("pin(0, 0) while down", t.pin(0, 0), 1);
         Check.is("serverOf(0) while down", t.serverOf(0), 1);
@@ -83,7 +74,7 @@ public final class PinsTest {
     }
 
     private static void unpin() {
-        PreferenceTable t = oneAndTwo();
+        PreferenceTable t = Tables.oneAndTwo();
         t.pin(0, 0);
         t.pin(1, 1);
         Check.is("unpin(0)", t.unpin(0), 0);
@@ -101,7 +92,7 @@ public final class PinsTest {
     }
 
     private static void pinHottest() {
-        PreferenceTable t = oneAndTwo();
+        PreferenceTable t = Tables.oneAndTwo();
         t.request(3, 4);
         t.request(0, 6);
         Check.is("rankedServer(1)", t.rankedServer(1), 1);

@@ -25,15 +25,6 @@ public final class ServersTest {
         Check.finish();
     }
 
-    /** Servers 0 (name 1, weight 1) and 1 (name 2, weight 2) on the slots 1 1 0 0 1. */
-    private static PreferenceTable oneAndTwo() {
-        PreferenceTable t = new PreferenceTable();
-        t.reset(5);
-        t.addServer(1, 1);
-        t.addServer(2, 2);
-        return t;
-    }
-
     private static void addServerGivesTheLowestNumber() {
         PreferenceTable t = new PreferenceTable();
         for (int i = 0; i < 10; i++) {
@@ -75,7 +66,7 @@ public final class ServersTest {
     }
 
     private static void addServerIsAChange() {
-        PreferenceTable t = oneAndTwo();
+        PreferenceTable t = Tables.oneAndTwo();
         t.request(0, 7);
         Check.is("addServer(3, 1)", t.addServer(3, 1), 2);
         Check.is("loadOf a new server", t.loadOf(2), 0);
@@ -88,11 +79,11 @@ public final class ServersTest {
     }
 
     private static void removeServer() {
-        PreferenceTable t = oneAndTwo();
+        PreferenceTable t = Tables.oneAndTwo();
         Check.is("request(0, 1000000)", t.request(0, 1000000), 1);
         t.request(0, 3);
         Check.is("removeServer(1)", t.removeServer(1), 1000003);
-        Check.isText("slots without server 1", Check.slots(t, 5), "0 0 0 0 0");
+        Check.isText("slots without server 1", Tables.slots(t, 5), "0 0 0 0 0");
         Check.badArgument("removeServer(1) again", () -> t.removeServer(1));
         Check.badArgument("loadOf(1) of a removed server", () -> t.loadOf(1));
         Check.is("serverNamed(2) of a removed server", t.serverNamed(2), PreferenceTable.NONE);
@@ -105,7 +96,7 @@ public final class ServersTest {
     }
 
     private static void removeServerRemovesPins() {
-        PreferenceTable t = oneAndTwo();
+        PreferenceTable t = Tables.oneAndTwo();
         t.pin(10, 0);
         t.pin(11, 1);
         t.pin(12, 0);
@@ -125,7 +116,7 @@ public final class ServersTest {
     }
 
     private static void removeServerKeepsOtherPins() {
-        PreferenceTable t = oneAndTwo();
+        PreferenceTable t = Tables.oneAndTwo();
         t.pin(20, 1);
         t.pin(21, 0);
         t.pin(22, 1);
@@ -137,13 +128,13 @@ public final class ServersTest {
     }
 
     private static void setWeight() {
-        PreferenceTable t = oneAndTwo();
+        PreferenceTable t = Tables.oneAndTwo();
         t.request(0, 5);
         Check.is("setWeight(0, 2)", t.setWeight(0, 2), 1);
-        Check.isText("slots of equal weights", Check.slots(t, 5), "0 1 0 0 1");
+        Check.isText("slots of equal weights", Tables.slots(t, 5), "0 1 0 0 1");
         Check.is("setWeight(0, 16)", t.setWeight(0, 16), 2);
         Check.is("setWeight(0, 1)", t.setWeight(0, 1), 16);
-        Check.isText("slots of weights 1 and 2", Check.slots(t, 5), "1 1 0 0 1");
+        Check.isText("slots of weights 1 and 2", Tables.slots(t, 5), "1 1 0 0 1");
         Check.badArgument("setWeight(0, 0)", () -> t.setWeight(0, 0));
         Check.badArgument("setWeight(0, 17)", () -> t.setWeight(0, 17));
         Check.badArgument("setWeight(0, -1)", () -> t.setWeight(0, -1));
@@ -160,17 +151,17 @@ public final class ServersTest {
     }
 
     private static void setUp() {
-        PreferenceTable t = oneAndTwo();
+        PreferenceTable t = Tables.oneAndTwo();
         t.pin(1, 1);
         t.request(1, 4);
         isTrue("setUp(1, true) of a server that is up", t.setUp(1, true), true);
         isTrue("setUp(1, false)", t.setUp(1, false), true);
-        Check.isText("slots with 1 down", Check.slots(t, 5), "0 0 0 0 0");
+        Check.isText("slots with 1 down", Tables.slots(t, 5), "0 0 0 0 0");
         Check.is("serverCount() with 1 down", t.serverCount(), 2);
         Check.is("loadOf(1) with 1 down", t.loadOf(1), 4);
         isTrue("setUp(1, false) again", t.setUp(1, false), false);
         isTrue("setUp(1, true)", t.setUp(1, true), false);
-        Check.isText("slots with 1 up", Check.slots(t, 5), "1 1 0 0 1");
+        Check.isText("slots with 1 up", Tables.slots(t, 5), "1 1 0 0 1");
         Check.is("the pin is still there", t.serverOf(1), 1);
         Check.is("undo() of up", t.undo(), 3);
         Check.is("undo() of down again", t.undo(), 2);
@@ -216,7 +207,7 @@ public final class ServersTest {
     }
 
     private static void preference() {
-        PreferenceTable t = oneAndTwo();
+        PreferenceTable t = Tables.oneAndTwo();
         t.addServer(4, 1);
         preferences(t, 0, 3, 4, 0, 1, 2);
         preferences(t, 1, 4, 1, 3, 0, 2);
@@ -245,7 +236,7 @@ public final class ServersTest {
     }
 
     private static void slotsOf() {
-        PreferenceTable t = oneAndTwo();
+        PreferenceTable t = Tables.oneAndTwo();
         Check.is("slotsOf(0)", t.slotsOf(0), 2);
         Check.is("slotsOf(1)", t.slotsOf(1), 3);
         t.setUp(1, false);
@@ -254,7 +245,7 @@ public final class ServersTest {
     }
 
     private static void idealShare() {
-        PreferenceTable t = oneAndTwo();
+        PreferenceTable t = Tables.oneAndTwo();
         Check.isDouble("idealShare(0)", t.idealShare(0), 5.0 / 3.0);
         Check.isDouble("idealShare(1)", t.idealShare(1), 10.0 / 3.0);
         t.setUp(1, false);
@@ -270,10 +261,10 @@ public final class ServersTest {
     }
 
     private static void removalDisruption() {
-        PreferenceTable t = oneAndTwo();
+        PreferenceTable t = Tables.oneAndTwo();
         Check.is("removalDisruption(0)", t.removalDisruption(0), 2);
         Check.is("removalDisruption(1)", t.removalDisruption(1), 3);
-        Check.isText("slots are as before", Check.slots(t, 5), "1 1 0 0 1");
+        Check.isText("slots are as before", Tables.slots(t, 5), "1 1 0 0 1");
         Check.is("disruption() is as before", t.disruption(), 3);
         Check.is("undo() is as before", t.undo(), 1);
         Check.is("removalDisruption(0) of the only server", t.removalDisruption(0), 5);
@@ -299,7 +290,7 @@ public final class ServersTest {
     }
 
     private static void unknownServersAreRefused() {
-        PreferenceTable t = oneAndTwo();
+        PreferenceTable t = Tables.oneAndTwo();
         for (int server : NO_SERVERS) {
             String of = "(" + server + ")";
             Check.badArgument("removeServer" + of, () -> t.removeServer(server));
@@ -312,7 +303,7 @@ public final class ServersTest {
             Check.badArgument("loadOf" + of, () -> t.loadOf(server));
             Check.badArgument("pin" + of, () -> t.pin(1, server));
         }
-        Check.isText("slots after the refusals", Check.slots(t, 5), "1 1 0 0 1");
+        Check.isText("slots after the refusals", Tables.slots(t, 5), "1 1 0 0 1");
         Check.is("undo() after the refusals", t.undo(), 1);
     }
 }

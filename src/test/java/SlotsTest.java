@@ -19,15 +19,9 @@ public final class SlotsTest {
         Check.finish();
     }
 
-    private static PreferenceTable withFiveSlots() {
-        PreferenceTable t = new PreferenceTable();
-        t.reset(5);
-        return t;
-    }
-
     private static void newObject() {
         PreferenceTable t = new PreferenceTable();
-        Check.isText("new: slots", Check.slots(t, 13),
+        Check.isText("new: slots", Tables.slots(t, 13),
                 "-1 -1 -1 -1 -1 -1 -1 -1 -1 -1 -1 -1 -1");
         Check.badArgument("new: serverAt(13)", () -> t.serverAt(13));
         Check.is("new: serverCount()", t.serverCount(), 0);
@@ -70,7 +64,7 @@ public final class SlotsTest {
     }
 
     private static PreferenceTable busy() {
-        PreferenceTable t = withFiveSlots();
+        PreferenceTable t = Tables.withFiveSlots();
         t.addServer(1, 1);
         t.addServer(2, 1);
         t.request(4, 9);
@@ -84,7 +78,7 @@ public final class SlotsTest {
         t.setUp(0, false);
         Check.is("forcedDisruption() before reset", t.forcedDisruption(), 3);
         Check.is("reset(7)", t.reset(7), 5);
-        Check.isText("slots after reset", Check.slots(t, 7), "-1 -1 -1 -1 -1 -1 -1");
+        Check.isText("slots after reset", Tables.slots(t, 7), "-1 -1 -1 -1 -1 -1 -1");
         Check.is("serverCount() after reset", t.serverCount(), 0);
         Check.is("serverNamed(1) after reset", t.serverNamed(1), PreferenceTable.NONE);
         Check.badArgument("loadOf(0) after reset", () -> t.loadOf(0));
@@ -104,16 +98,16 @@ public final class SlotsTest {
     private static void refusedResetChangesNothing() {
         PreferenceTable t = busy();
         Check.badArgument("reset(6)", () -> t.reset(6));
-        Check.isText("slots after a refused reset", Check.slots(t, 5), "0 1 0 0 1");
+        Check.isText("slots after a refused reset", Tables.slots(t, 5), "0 1 0 0 1");
         Check.badArgument("serverAt(5) after a refused reset", () -> t.serverAt(5));
         Check.is("disruption() after a refused reset", t.disruption(), 2);
-        Check.isText("entries after a refused reset", Check.entries(t), "4:9:0");
+        Check.isText("entries after a refused reset", Tables.entries(t), "4:9:0");
         Check.is("unpin(7) after a refused reset", t.unpin(7), 1);
         Check.is("undo() after a refused reset", t.undo(), 1);
     }
 
     private static void serverAtKnowsItsSlots() {
-        PreferenceTable t = withFiveSlots();
+        PreferenceTable t = Tables.withFiveSlots();
         Check.badArgument("serverAt(-1)", () -> t.serverAt(-1));
         Check.badArgument("serverAt(5)", () -> t.serverAt(5));
         Check.badArgument("serverAt(least)", () -> t.serverAt(Integer.MIN_VALUE));
@@ -125,32 +119,32 @@ public final class SlotsTest {
     }
 
     private static void equalWeightsTakeTurns() {
-        PreferenceTable t = withFiveSlots();
+        PreferenceTable t = Tables.withFiveSlots();
         t.addServer(1, 16);
         t.addServer(2, 16);
-        Check.isText("slots of equal weights", Check.slots(t, 5), "0 1 0 0 1");
-        PreferenceTable other = withFiveSlots();
+        Check.isText("slots of equal weights", Tables.slots(t, 5), "0 1 0 0 1");
+        PreferenceTable other = Tables.withFiveSlots();
         other.addServer(2, 1);
         other.addServer(1, 1);
         // Name 2 takes 4, name 1 takes 3, then 1 and 0, then name 2 the last one.
-        Check.isText("slots in the order of the numbers", Check.slots(other, 5), "1 0 0 1 0");
+        Check.isText("slots in the order of the numbers", Tables.slots(other, 5), "1 0 0 1 0");
     }
 
     private static void heavierServersHaveMoreTurns() {
-        PreferenceTable t = withFiveSlots();
+        PreferenceTable t = Tables.withFiveSlots();
         t.addServer(1, 1);
         t.addServer(2, 2);
         // Server 1 has a turn in each round, server 0 in rounds 2 and 4.
-        Check.isText("slots of weights 1 and 2", Check.slots(t, 5), "1 1 0 0 1");
+        Check.isText("slots of weights 1 and 2", Tables.slots(t, 5), "1 1 0 0 1");
         t.setWeight(1, 16);
-        Check.isText("slots of weights 1 and 16", Check.slots(t, 5), "1 1 1 1 1");
+        Check.isText("slots of weights 1 and 16", Tables.slots(t, 5), "1 1 1 1 1");
         t.setWeight(0, 12);
         // Server 0 has no turn in round 1 (12 / 16 = 0), then takes 3 and 0; server 1 takes 4, 1, 2.
-        Check.isText("slots of weights 12 and 16", Check.slots(t, 5), "0 1 1 0 1");
+        Check.isText("slots of weights 12 and 16", Tables.slots(t, 5), "0 1 1 0 1");
     }
 
     private static void disruptionOfEachKindOfChange() {
-        PreferenceTable t = withFiveSlots();
+        PreferenceTable t = Tables.withFiveSlots();
         t.addServer(1, 1);
         disruptions(t, "the first server", 5, 5);
         t.addServer(2, 1);
@@ -185,7 +179,7 @@ public final class SlotsTest {
     }
 
     private static void disruptionWithoutServersUp() {
-        PreferenceTable t = withFiveSlots();
+        PreferenceTable t = Tables.withFiveSlots();
         t.addServer(1, 1);
         t.setUp(0, false);
         disruptions(t, "the last server down", 5, 5);
@@ -212,7 +206,7 @@ public final class SlotsTest {
     }
 
     private static void imbalance() {
-        PreferenceTable t = withFiveSlots();
+        PreferenceTable t = Tables.withFiveSlots();
         t.addServer(1, 1);
         Check.isDouble("imbalance() of one server", t.imbalance(), 1.0);
         t.addServer(2, 2);
