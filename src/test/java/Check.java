@@ -30,7 +30,7 @@ final class Check {
         throwsExactly(call, IndexOutOfBoundsException.class, action);
     }
 
-    private static void throwsExactly(String call, Class<?> due, Runnable action) {
+    static void throwsExactly(String call, Class<?> due, Runnable action) {
         String got = "nothing";
         try {
             action.run();

@@ -40,7 +40,7 @@ public final class LookupsTest {
         for (int i = 0; i < 10; i++) {
             t.addServer(1000 + i, 1 + i);
         }
-        for (int key = 0; key < 100000; key += 271) {
+        for (int key = 0; key < 100000; key += 449) {
             long slot = (40503L * key + 12345L) % 65536L % 61L;
             Check.is("serverOf(" + key + ")", t.serverOf(key), t.serverAt((int) slot));
         }
