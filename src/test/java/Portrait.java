@@ -70,13 +70,21 @@ enum Portrait {
     }
 
     private static String pinned(PreferenceTable t) {
-        StringBuilder text = new StringBuilder("server and pin of keys");
+        StringBuilder text = new StringBuilder("servers of keys").append(serversOfKeys(t));
+        text.append("; pins");
         for (int key : KEYS) {
-            text.append("; ").append(key).append(answer(() -> t.serverOf(key)))
-                    .append(answer(() -> t.unpin(key)));
+            text.append(answer(() -> t.unpin(key)));
         }
         return text.append("; pins that are left")
                 .append(answer(() -> t.pin(0, t.rankedServer(0)) - 1)).toString();
+    }
+
+    private static String serversOfKeys(PreferenceTable t) {
+        StringBuilder text = new StringBuilder();
+        for (int key : KEYS) {
+            text.append(answer(() -> t.serverOf(key)));
+        }
+        return text.toString();
     }
 
     private static String set(PreferenceTable t) {
@@ -100,9 +108,7 @@ enum Portrait {
                 int server = number;
                 text.append(answer(() -> t.loadOf(server)));
             }
-            for (int key : KEYS) {
-                text.append(answer(() -> t.serverOf(key)));
-            }
+            text.append(serversOfKeys(t));
         }
         return text.append("; then ").append(pinned(t)).toString();
     }

@@ -1,6 +1,3 @@
-import java.util.function.Consumer;
-import java.util.function.Supplier;
-
 /**
  * "Methods throw an exception for wrong arguments or in the wrong state; a call that throws an
  * exception changes nothing. If several exceptions apply, the first one that the method names is
@@ -18,29 +15,6 @@ public final class RefusalsTest {
     private static final int[] NO_KEYS = {-1, 100000, LEAST, GREATEST};
     private static final int[] NO_WEIGHTS = {0, 17, -1, LEAST, GREATEST};
     private static final int[] NO_NAMES = {0, 10000, -1, LEAST, GREATEST};
-
-    /** A table to begin with; refused calls on it are compared with a twin from the same maker. */
-    private record Start(
-            String name, int slots, Supplier<PreferenceTable> maker, int... noServers) {
-        void refuses(String call, Class<?> due, Consumer<PreferenceTable> refused) {
-            for (Portrait kind : Portrait.values()) {
-                PreferenceTable touched = maker.get();
-                Check.throwsExactly(name + ": " + call, due, () -> refused.accept(touched));
-                Check.isText(name + ": after the refused " + call,
-                        kind.of(touched), kind.of(maker.get()));
-            }
-        }
-    }
-
-    private static final Start FRESH = new Start("new object", 13, PreferenceTable::new,
-            0, -1, 9, 10, LEAST, GREATEST);
-    private static final Start BUSY = new Start("busy", 5, RefusalsTest::busy,
-            2, 4, -1, 9, 10, LEAST, GREATEST);
-    private static final Start FULL = new Start("full", 11, RefusalsTest::full,
-            -1, 10, 11, LEAST, GREATEST);
-    private static final Start ALL_DOWN = new Start("all down", 7, RefusalsTest::allDown,
-            2, -1, 10, LEAST, GREATEST);
-    private static final Start[] STARTS = {FRESH, BUSY, FULL, ALL_DOWN};
 
     public static void main(String[] args) {
         reset();
@@ -63,57 +37,9 @@ public final class RefusalsTest {
         Check.finish();
     }
 
-    /** Servers 0 and 1 up, 2 removed, 3 down; two pins, three entries, four changes to undo. */
-    private static PreferenceTable busy() {
-        PreferenceTable t = Tables.oneAndTwo();
-        t.addServer(3, 4);
-        t.request(8, 6);
-        t.addServer(4, 5);
-        t.pin(4, 1);
-        t.removeServer(2);
-        t.request(1, 7);
-        t.pin(7, 3);
-        t.setUp(3, false);
-        t.request(4, 9);
-        return t;
-    }
-
-    /** Ten servers, 9 down; six pins, eight entries, the hottest key 50 not pinned. */
-    private static PreferenceTable full() {
-        PreferenceTable t = new PreferenceTable();
-        t.reset(11);
-        for (int name = 1; name <= 9; name++) {
-            t.addServer(name, name);
-        }
-        t.addServer(9999, 16);
-        for (int key = 0; key < 6; key++) {
-            t.pin(key, 9 - key);
-        }
-        t.request(50, 30);
-        for (int key = 1; key <= 7; key++) {
-            t.request(key, 2 * key);
-        }
-        t.setUp(9, false);
-        t.setWeight(0, 16);
-        return t;
-    }
-
-    /** Servers 0 and 1, both down; one pin, one entry, four changes to undo. */
-    private static PreferenceTable allDown() {
-        PreferenceTable t = new PreferenceTable();
-        t.reset(7);
-        t.addServer(1, 3);
-        t.addServer(2, 4);
-        t.pin(3, 1);
-        t.request(5, 8);
-        t.setUp(0, false);
-        t.setUp(1, false);
-        return t;
-    }
-
     private static void reset() {
         int[] noSlotCounts = {LEAST, -5, -1, 0, 1, 2, 3, 4, 6, 9, 25, 49, 57, 60, 62, 67, GREATEST};
-        for (Start start : STARTS) {
+        for (Start start : Start.ALL) {
             for (int slots : noSlotCounts) {
                 start.refuses("reset(" + slots + ")", BAD_ARGUMENT, t -> t.reset(slots));
             }
@@ -121,15 +47,15 @@ public final class RefusalsTest {
     }
 
     private static void serverAt() {
-        for (Start start : STARTS) {
-            for (int slot : new int[] {-1, start.slots, start.slots + 1, 61, LEAST, GREATEST}) {
+        for (Start start : Start.ALL) {
+            for (int slot : new int[] {-1, start.slots(), start.slots() + 1, 61, LEAST, GREATEST}) {
                 start.refuses("serverAt(" + slot + ")", BAD_ARGUMENT, t -> t.serverAt(slot));
             }
         }
     }
 
     private static void addServer() {
-        for (Start start : new Start[] {FRESH, BUSY}) {
+        for (Start start : new Start[] {Start.FRESH, Start.BUSY}) {
             for (int name : NO_NAMES) {
                 start.refuses("addServer(" + name + ", 1)", BAD_ARGUMENT,
                         t -> t.addServer(name, 1));
@@ -139,32 +65,32 @@ public final class RefusalsTest {
                         t -> t.addServer(5, weight));
             }
         }
-        BUSY.refuses("addServer(1, 1), the name taken", BAD_STATE, t -> t.addServer(1, 1));
-        BUSY.refuses("addServer(4, 1), taken by one that is down", BAD_STATE,
+        Start.BUSY.refuses("addServer(1, 1), the name taken", BAD_STATE, t -> t.addServer(1, 1));
+        Start.BUSY.refuses("addServer(4, 1), taken by one that is down", BAD_STATE,
                 t -> t.addServer(4, 1));
-        FULL.refuses("addServer(500, 1), ten servers", BAD_STATE, t -> t.addServer(500, 1));
-        FULL.refuses("addServer(9999, 1), ten servers and taken", BAD_STATE,
+        Start.FULL.refuses("addServer(500, 1), ten servers", BAD_STATE, t -> t.addServer(500, 1));
+        Start.FULL.refuses("addServer(9999, 1), ten servers and taken", BAD_STATE,
                 t -> t.addServer(9999, 1));
     }
 
     private static void addServerNamesItsExceptionsInOrder() {
         for (int weight : NO_WEIGHTS) {
-            BUSY.refuses("addServer(1, " + weight + "), the name taken", BAD_ARGUMENT,
+            Start.BUSY.refuses("addServer(1, " + weight + "), the name taken", BAD_ARGUMENT,
                     t -> t.addServer(1, weight));
-            FULL.refuses("addServer(500, " + weight + "), ten servers", BAD_ARGUMENT,
+            Start.FULL.refuses("addServer(500, " + weight + "), ten servers", BAD_ARGUMENT,
                     t -> t.addServer(500, weight));
         }
         for (int name : NO_NAMES) {
-            FULL.refuses("addServer(" + name + ", 1), ten servers", BAD_ARGUMENT,
+            Start.FULL.refuses("addServer(" + name + ", 1), ten servers", BAD_ARGUMENT,
                     t -> t.addServer(name, 1));
         }
-        FULL.refuses("addServer(0, 0), ten servers", BAD_ARGUMENT, t -> t.addServer(0, 0));
+        Start.FULL.refuses("addServer(0, 0), ten servers", BAD_ARGUMENT, t -> t.addServer(0, 0));
     }
 
     /** Promises 8, 9, 10, 13, 14, 15, 16 and 19: no such server. */
     private static void callsWithAServer() {
-        for (Start start : STARTS) {
-            for (int server : start.noServers) {
+        for (Start start : Start.ALL) {
+            for (int server : start.noServers()) {
                 String of = "(" + server + ")";
                 start.refuses("removeServer" + of, BAD_ARGUMENT, t -> t.removeServer(server));
                 start.refuses("setWeight" + of, BAD_ARGUMENT, t -> t.setWeight(server, 9));
@@ -183,15 +109,16 @@ public final class RefusalsTest {
     private static void setWeight() {
         for (int weight : NO_WEIGHTS) {
             for (int server : new int[] {0, 1, 3, 2, -1, 10}) {
-                BUSY.refuses("setWeight(" + server + ", " + weight + ")", BAD_ARGUMENT,
+                Start.BUSY.refuses("setWeight(" + server + ", " + weight + ")", BAD_ARGUMENT,
                         t -> t.setWeight(server, weight));
             }
-            FULL.refuses("setWeight(9, " + weight + ")", BAD_ARGUMENT, t -> t.setWeight(9, weight));
+            Start.FULL.refuses("setWeight(9, " + weight + ")", BAD_ARGUMENT,
+                    t -> t.setWeight(9, weight));
         }
     }
 
     private static void serverNamed() {
-        for (Start start : STARTS) {
+        for (Start start : Start.ALL) {
             for (int name : NO_NAMES) {
                 start.refuses("serverNamed(" + name + ")", BAD_ARGUMENT, t -> t.serverNamed(name));
             }
@@ -199,8 +126,8 @@ public final class RefusalsTest {
     }
 
     private static void preference() {
-        for (Start start : new Start[] {BUSY, FULL, ALL_DOWN}) {
-            for (int index : new int[] {-1, start.slots, 61, LEAST, GREATEST}) {
+        for (Start start : new Start[] {Start.BUSY, Start.FULL, Start.ALL_DOWN}) {
+            for (int index : new int[] {-1, start.slots(), 61, LEAST, GREATEST}) {
                 start.refuses("preference(0, " + index + ")", BAD_ARGUMENT,
                         t -> t.preference(0, index));
                 start.refuses("preference(10, " + index + ")", BAD_ARGUMENT,
@@ -210,7 +137,7 @@ public final class RefusalsTest {
     }
 
     private static void serverOf() {
-        for (Start start : STARTS) {
+        for (Start start : Start.ALL) {
             for (int key : NO_KEYS) {
                 start.refuses("serverOf(" + key + ")", BAD_ARGUMENT, t -> t.serverOf(key));
             }
@@ -218,7 +145,7 @@ public final class RefusalsTest {
     }
 
     private static void request() {
-        for (Start start : STARTS) {
+        for (Start start : Start.ALL) {
             for (int key : NO_KEYS) {
                 start.refuses("request(" + key + ", 1)", BAD_ARGUMENT, t -> t.request(key, 1));
                 start.refuses("request(" + key + ", 0)", BAD_ARGUMENT, t -> t.request(key, 0));
@@ -230,10 +157,10 @@ public final class RefusalsTest {
     }
 
     private static void rankedServer() {
-        placesEndAt(FRESH, 0);
-        placesEndAt(BUSY, 2);
-        placesEndAt(FULL, 9);
-        placesEndAt(ALL_DOWN, 0);
+        placesEndAt(Start.FRESH, 0);
+        placesEndAt(Start.BUSY, 2);
+        placesEndAt(Start.FULL, 9);
+        placesEndAt(Start.ALL_DOWN, 0);
     }
 
     private static void placesEndAt(Start start, int serversUp) {
@@ -244,28 +171,29 @@ public final class RefusalsTest {
 
     private static void pin() {
         for (int key : NO_KEYS) {
-            BUSY.refuses("pin(" + key + ", 0)", BAD_ARGUMENT, t -> t.pin(key, 0));
+            Start.BUSY.refuses("pin(" + key + ", 0)", BAD_ARGUMENT, t -> t.pin(key, 0));
         }
-        for (Start start : STARTS) {
-            for (int server : start.noServers) {
+        for (Start start : Start.ALL) {
+            for (int server : start.noServers()) {
                 start.refuses("pin(50, " + server + ")", BAD_ARGUMENT, t -> t.pin(50, server));
                 start.refuses("pin(4, " + server + ")", BAD_ARGUMENT, t -> t.pin(4, server));
             }
         }
-        FULL.refuses("pin(50, 0), six keys pinned", BAD_STATE, t -> t.pin(50, 0));
-        FULL.refuses("pin(6, 9), six keys pinned", BAD_STATE, t -> t.pin(6, 9));
+        Start.FULL.refuses("pin(50, 0), six keys pinned", BAD_STATE, t -> t.pin(50, 0));
+        Start.FULL.refuses("pin(6, 9), six keys pinned", BAD_STATE, t -> t.pin(6, 9));
     }
 
     private static void pinNamesItsExceptionsInOrder() {
         for (int key : NO_KEYS) {
-            FULL.refuses("pin(" + key + ", 0), six keys pinned", BAD_ARGUMENT, t -> t.pin(key, 0));
+            Start.FULL.refuses("pin(" + key + ", 0), six keys pinned", BAD_ARGUMENT,
+                    t -> t.pin(key, 0));
         }
-        FULL.refuses("pin(50, 10), six keys pinned", BAD_ARGUMENT, t -> t.pin(50, 10));
-        FULL.refuses("pin(50, -1), six keys pinned", BAD_ARGUMENT, t -> t.pin(50, -1));
+        Start.FULL.refuses("pin(50, 10), six keys pinned", BAD_ARGUMENT, t -> t.pin(50, 10));
+        Start.FULL.refuses("pin(50, -1), six keys pinned", BAD_ARGUMENT, t -> t.pin(50, -1));
     }
 
     private static void unpin() {
-        for (Start start : STARTS) {
+        for (Start start : Start.ALL) {
             for (int key : NO_KEYS) {
                 start.refuses("unpin(" + key + ")", BAD_ARGUMENT, t -> t.unpin(key));
             }
@@ -279,19 +207,20 @@ public final class RefusalsTest {
             t.request(3, 1);
             return t;
         });
-        FRESH.refuses("pinHottest(), no entries, no server", BAD_STATE,
+        Start.FRESH.refuses("pinHottest(), no entries, no server", BAD_STATE,
                 PreferenceTable::pinHottest);
         withoutEntries.refuses("pinHottest()", BAD_STATE, PreferenceTable::pinHottest);
         withoutServers.refuses("pinHottest()", BAD_STATE, PreferenceTable::pinHottest);
-        ALL_DOWN.refuses("pinHottest(), no server up", BAD_STATE, PreferenceTable::pinHottest);
-        FULL.refuses("pinHottest(), six keys pinned", BAD_STATE, PreferenceTable::pinHottest);
+        Start.ALL_DOWN.refuses("pinHottest(), no server up", BAD_STATE,
+                PreferenceTable::pinHottest);
+        Start.FULL.refuses("pinHottest(), six keys pinned", BAD_STATE, PreferenceTable::pinHottest);
     }
 
     private static void hotEntries() {
-        entriesEndAt(FRESH, 0);
-        entriesEndAt(ALL_DOWN, 1);
-        entriesEndAt(BUSY, 3);
-        entriesEndAt(FULL, 8);
+        entriesEndAt(Start.FRESH, 0);
+        entriesEndAt(Start.ALL_DOWN, 1);
+        entriesEndAt(Start.BUSY, 3);
+        entriesEndAt(Start.FULL, 8);
     }
 
     private static void entriesEndAt(Start start, int entries) {
@@ -304,19 +233,19 @@ public final class RefusalsTest {
 
     private static void undo() {
         Start afterReset = new Start("after reset", 7, () -> {
-            PreferenceTable t = full();
+            PreferenceTable t = Start.FULL.make();
             t.reset(7);
             return t;
         });
         Start allUndone = new Start("four changes undone", 11, () -> {
-            PreferenceTable t = full();
+            PreferenceTable t = Start.FULL.make();
             t.undo();
             t.undo();
             t.undo();
             t.undo();
             return t;
         });
-        FRESH.refuses("undo()", BAD_STATE, PreferenceTable::undo);
+        Start.FRESH.refuses("undo()", BAD_STATE, PreferenceTable::undo);
         afterReset.refuses("undo()", BAD_STATE, PreferenceTable::undo);
         allUndone.refuses("undo()", BAD_STATE, PreferenceTable::undo);
     }

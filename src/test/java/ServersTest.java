@@ -263,9 +263,10 @@ public final class ServersTest {
     private static void removalDisruption() {
         PreferenceTable t = Tables.oneAndTwo();
         Check.is("removalDisruption(0)", t.removalDisruption(0), 2);
-        Check.is("removalDisruption(1)", t.removalDisruption(1), 3);
-        Check.isText("slots are as before", Tables.slots(t, 5), "1 1 0 0 1");
         Check.is("disruption() is as before", t.disruption(), 3);
+        Check.is("removalDisruption(1)", t.removalDisruption(1), 3);
+        Check.is("forcedDisruption() is as before", t.forcedDisruption(), 0);
+        Check.isText("slots are as before", Tables.slots(t, 5), "1 1 0 0 1");
         Check.is("undo() is as before", t.undo(), 1);
         Check.is("removalDisruption(0) of the only server", t.removalDisruption(0), 5);
         t.setUp(0, false);
