@@ -14,6 +14,7 @@ public final class SlotsTest {
         heavierServersHaveMoreTurns();
         disruptionOfEachKindOfChange();
         disruptionWithoutServersUp();
+        forcedOfEveryBuildingWithAllSlotsNone();
         forcedIsNotAPartOfDisruption();
         imbalance();
         Check.finish();
@@ -191,6 +192,29 @@ public final class SlotsTest {
         disruptions(t, "up with all slots NONE", 5, 5);
         t.removeServer(0);
         disruptions(t, "the only server removed", 5, 5);
+    }
+
+    /** A slot that contained NONE counts in every building, also if it still contains NONE. */
+    private static void forcedOfEveryBuildingWithAllSlotsNone() {
+        PreferenceTable t = Tables.withFiveSlots();
+        t.addServer(1, 1);
+        t.setUp(0, false);
+        t.setUp(0, false);
+        t.setWeight(0, 3);
+        t.undo();
+        disruptions(t, "undo of a weight, NONE before and behind", 0, 5);
+        t.undo();
+        disruptions(t, "undo of down again, NONE before and behind", 0, 5);
+        t.removeServer(0);
+        disruptions(t, "a server that is down removed, NONE before and behind", 0, 5);
+        t.undo();
+        disruptions(t, "undo of that, NONE before and behind", 0, 5);
+        t.undo();
+        disruptions(t, "undo of down, NONE before", 5, 5);
+        t.undo();
+        disruptions(t, "undo of the only server", 5, 5);
+        t.reset(7);
+        disruptions(t, "reset", 0, 0);
     }
 
     private static void forcedIsNotAPartOfDisruption() {
